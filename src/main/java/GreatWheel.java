@@ -195,7 +195,7 @@ public final class GreatWheel {
             case 0:
                 return stand.guests[car];
             case 1:
-                return stand.loadOf(car);
+                return stand.loads[car];
             case 2:
                 return stand.doneIn(car);
             case 3:
@@ -215,9 +215,7 @@ public final class GreatWheel {
         if (n < 0 || n > MOST_BAGS) {
             throw new IllegalArgumentException("not so many sandbags");
         }
-        int lay = stand.sandbags[car];
-        stand.sandbags[car] = n;
-        return lay;
+        return stand.putBags(car, n);
     }
 
     /** Promise 13. */
@@ -790,6 +788,20 @@ public final class GreatWheel {
             return part >= 0 && part < LEVER.length ? LEVER[part] : 0;
         }
 
+        /** LEAN of a row of loads by cars; behind the last 24th comes the first again. */
+        int leanOf(int[] loads, int foot) {
+            int part = foot > 0 && foot < cars ? (cars - foot) * partsApart : 0;
+            int sum = 0;
+            for (int car = 0; car < cars; car++) {
+                sum += loads[car] * LEVER[part];
+                part += partsApart;
+                if (part >= LEVER.length) {
+                    part = 0;
+                }
+            }
+            return sum;
+        }
+
         int longestLever() {
             int longest = 0;
             for (int car = 0; car < cars; car++) {
@@ -1220,7 +1232,7 @@ public final class GreatWheel {
         private final int[] rounds;
         private final int[] waited;
         private final int[] guests;
-        private final int[] weights;
+        private final int[] loads;
         private final int[] guessed;
         private final int[] fears;
         private final int[] sandbags;
@@ -1233,7 +1245,7 @@ public final class GreatWheel {
             rounds = new int[MOST_VISITS];
             waited = new int[MOST_VISITS];
             guests = new int[Plan.MOST_CARS];
-            weights = new int[Plan.MOST_CARS];
+            loads = new int[Plan.MOST_CARS];
             guessed = new int[Plan.MOST_CARS];
             fears = new int[Plan.MOST_CARS];
             sandbags = new int[Plan.MOST_CARS];
@@ -1248,7 +1260,7 @@ public final class GreatWheel {
             seated = 0;
             turns = 0;
             Arrays.fill(guests, 0);
-            Arrays.fill(weights, 0);
+            Arrays.fill(loads, 0);
             Arrays.fill(guessed, 0);
             Arrays.fill(fears, 0);
             Arrays.fill(sandbags, 0);
@@ -1256,7 +1268,9 @@ public final class GreatWheel {
 
         void beginDay(Stand from) {
             clear(from.plan);
-            System.arraycopy(from.sandbags, 0, sandbags, 0, Plan.MOST_CARS);
+            for (int car = 0; car < plan.cars; car++) {
+                putBags(car, from.sandbags[car]);
+            }
         }
 
         void copyFrom(Stand from) {
@@ -1273,7 +1287,7 @@ public final class GreatWheel {
             System.arraycopy(from.rounds, 0, rounds, 0, MOST_VISITS);
             System.arraycopy(from.waited, 0, waited, 0, MOST_VISITS);
             System.arraycopy(from.guests, 0, guests, 0, Plan.MOST_CARS);
-            System.arraycopy(from.weights, 0, weights, 0, Plan.MOST_CARS);
+            System.arraycopy(from.loads, 0, loads, 0, Plan.MOST_CARS);
             System.arraycopy(from.guessed, 0, guessed, 0, Plan.MOST_CARS);
             System.arraycopy(from.fears, 0, fears, 0, Plan.MOST_CARS);
             System.arraycopy(from.sandbags, 0, sandbags, 0, Plan.MOST_CARS);
@@ -1338,20 +1352,19 @@ public final class GreatWheel {
             return NONE;
         }
 
+        int putBags(int car, int many) {
+            int lay = sandbags[car];
+            sandbags[car] = many;
+            loads[car] += (many - lay) * plan.bagWeight;
+            return lay;
+        }
+
         int bagsLoad(int car) {
             return sandbags[car] * plan.bagWeight;
         }
 
-        int loadOf(int car) {
-            return weights[car] + bagsLoad(car);
-        }
-
         int leanAt(int atFoot) {
-            int sum = 0;
-            for (int car = 0; car < plan.cars; car++) {
-                sum += loadOf(car) * plan.lever(car, atFoot);
-            }
-            return sum;
+            return plan.leanOf(loads, atFoot);
         }
 
         int worstAt(int atFoot) {
@@ -1426,7 +1439,7 @@ public final class GreatWheel {
             int many = sign * plan.guests[party];
             seated += many;
             guests[car] += many;
-            weights[car] += sign * plan.total[party];
+            loads[car] += sign * plan.total[party];
             guessed[car] += many * plan.off[party];
             fears[car] += sign * plan.fear[party];
         }
@@ -1479,7 +1492,7 @@ public final class GreatWheel {
             for (int shift = 0; shift < plan.cars; shift++) {
                 int same = 0;
                 int there = shift;
-                while (same < plan.cars && loadOf(same) == other.loadOf(there)) {
+                while (same < plan.cars && loads[same] == other.loads[there]) {
                     same++;
                     there += way;
                     there = there < 0 ? plan.cars - 1 : there < plan.cars ? there : 0;
@@ -1623,8 +1636,9 @@ public final class GreatWheel {
             int above = rowOf(rest) * Plan.MOST_CARS;
             int at = level * Plan.MOST_CARS;
             int car = carOf[level];
+            int weight = stand.loads[car] - stand.bagsLoad(car);
             for (int foot = 0; foot < stand.plan.cars; foot++) {
-                leans[at + foot] = leans[above + foot] + stand.weights[car] * stand.plan.lever(car, foot);
+                leans[at + foot] = leans[above + foot] + weight * stand.plan.lever(car, foot);
             }
         }
 
@@ -1697,6 +1711,7 @@ public final class GreatWheel {
         private final int[] guestsOf;
         private final int[] weightOf;
         private final int[] fearsOf;
+        private final int[] sumsOf;
         private final int[] loads;
         private final int[] rooms;
         private final int[] fears;
@@ -1708,6 +1723,8 @@ public final class GreatWheel {
             guestsOf = new int[SETS];
             weightOf = new int[SETS];
             fearsOf = new int[SETS];
+            sumsOf = new int[SETS];
+            sumsOf[0] = 1;
             loads = new int[Plan.MOST_CARS];
             rooms = new int[Plan.MOST_CARS];
             fears = new int[Plan.MOST_CARS];
@@ -1721,7 +1738,7 @@ public final class GreatWheel {
             Arrays.fill(best, NONE);
             Arrays.fill(now, NONE);
             for (int car = 0; car < stand.plan.cars; car++) {
-                loads[car] = stand.loadOf(car);
+                loads[car] = stand.loads[car];
                 rooms[car] = stand.plan.seats - stand.guests[car];
                 fears[car] = stand.fears[car];
             }
@@ -1734,18 +1751,20 @@ public final class GreatWheel {
             return 1 << (VISITS - 1 - i);
         }
 
-        /** The set of all that wait, six at most. */
+        /** The set of those that wait, of the first six, and could sit in some car. */
         private int gather(Stand stand) {
             int all = 0;
             int i = 0;
             for (int v = 0; v < stand.visits && i < VISITS; v++) {
                 if (stand.place[v] == Stand.STILL_WAITS) {
+                    int bit = bit(i);
                     int party = stand.partyOf[v];
-                    guestsOf[bit(i)] = stand.plan.guests[party];
-                    weightOf[bit(i)] = stand.plan.total[party];
-                    fearsOf[bit(i)] = stand.plan.fear[party];
+                    guestsOf[bit] = stand.plan.guests[party];
+                    weightOf[bit] = stand.plan.total[party];
+                    fearsOf[bit] = stand.plan.fear[party];
                     earlierTwins[i] = twinsAhead(i);
-                    all |= bit(i);
+                    // One with more guests than seats never gets in, and would only lengthen the search.
+                    all |= guestsOf[bit] <= stand.plan.seats ? bit : 0;
                     i++;
                 }
             }
@@ -1764,11 +1783,13 @@ public final class GreatWheel {
             return twins;
         }
 
+        /** Bit k of a set's sums is there, if some of the set have k guests together. */
         private void sumSets() {
             for (int set = 1; set < SETS; set++) {
                 int rest = set & (set - 1);
+                int one = set ^ rest;
+                sumsOf[set] = sumsOf[rest] | sumsOf[rest] << guestsOf[one];
                 if (rest != 0) {
-                    int one = set ^ rest;
                     guestsOf[set] = guestsOf[rest] + guestsOf[one];
                     weightOf[set] = weightOf[rest] + weightOf[one];
                     fearsOf[set] = fearsOf[rest] + fearsOf[one];
@@ -1854,30 +1875,30 @@ public final class GreatWheel {
 
         /** Whether a load at this stop or behind it can still come ahead of the best. */
         private boolean isWorth(Plan plan, int foot, int stop, int left) {
-            int most = nowGuests + Math.min(guestsOf[left], roomAhead(plan, foot, stop));
+            int most = nowGuests + Math.min(guestsOf[left], mostAhead(plan, foot, stop, left));
             if (most != bestGuests) {
                 return most > bestGuests;
             }
             return stop < bestTurns || stop == bestTurns && isEarlier(stop);
         }
 
-        private int roomAhead(Plan plan, int foot, int stop) {
-            int room = 0;
+        /** No fewer than the guests of those left that the cars ahead can take. */
+        private int mostAhead(Plan plan, int foot, int stop, int left) {
+            int most = 0;
             int car = foot;
             for (int n = 0; n < plan.cars && stop + n <= lastStop; n++) {
                 // Nobody leaves, so one of fear who keeps a car shut does so till the end.
-                room += fears[plan.opposite(car)] > 0 ? 0 : rooms[car];
+                if (fears[plan.opposite(car)] == 0) {
+                    int sums = sumsOf[left] & ((2 << rooms[car]) - 1);
+                    most += 31 - Integer.numberOfLeadingZeros(sums);
+                }
                 car = plan.behind(car);
             }
-            return room;
+            return most;
         }
 
         private boolean leansTooFar(Plan plan, int foot) {
-            int sum = 0;
-            for (int car = 0; car < plan.cars; car++) {
-                sum += loads[car] * plan.lever(car, foot);
-            }
-            return Math.abs(sum) > plan.mostLean();
+            return Math.abs(plan.leanOf(loads, foot)) > plan.mostLean();
         }
     }
 

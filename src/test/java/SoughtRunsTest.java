@@ -2,7 +2,7 @@ import java.util.Random;
 
 /** Crowded wheels close to their bounds: what is sought (promises 24 to 28, 15) beside the plain Model. */
 public final class SoughtRunsTest {
-    private static final int RUNS = 1500;
+    private static final int RUNS = 200;
     private static final int MOST_WAYS = 50000;
 
     private final Random random;

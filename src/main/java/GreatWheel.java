@@ -40,10 +40,12 @@ public final class GreatWheel {
     /** Promise 1. */
     public GreatWheel() {
         Plan plain = new Plan();
-        tape = new byte[TAPE_BYTES];
+        byte[] bytes = new byte[TAPE_BYTES];
+        Lexer reading = new Lexer(bytes);
+        tape = bytes;
         fed = 0;
-        lexer = new Lexer(tape);
-        ruleReader = new RuleReader(lexer);
+        lexer = reading;
+        ruleReader = new RuleReader(reading);
         stand = new Stand(plain);
         trial = new Stand(plain);
         theRule = new Rule(0, new int[0], new int[0], new int[0], new int[0]);

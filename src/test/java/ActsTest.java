@@ -32,6 +32,13 @@ public final class ActsTest {
         for (int act : new int[] {-1, 2, 5, 9, 70, 1000, Integer.MAX_VALUE, Integer.MIN_VALUE}) {
             Checks.due("17: another number " + act, x.may(act), 1);
         }
+        GreatWheel full = Checks.wheelOf("party 1;");
+        for (int v = 0; v < 60; v++) {
+            full.come(0);
+        }
+        Checks.due("17: the last visit", full.may(69), 0);
+        Checks.due("17: beyond it", full.may(70), 1);
+        Checks.due("17: the number before", full.may(9), 1);
         x.load(0);
         Checks.due("17: it sits", x.may(10), 1);
         Checks.due("17: more guests than seats", x.may(11), 2);

@@ -123,6 +123,12 @@ public final class PresenceTest {
         dueCar(x, 0, 3, 171, 2, 0, 3, 1);
         x.empty();
         dueCar(x, 0, 0, 21, 0, 0, 3, -1);
+        GreatWheel y = Checks.wheelOf("seats 3;party 1;");
+        y.come(0);
+        y.come(0);
+        y.load(1);
+        y.load(0);
+        Checks.due("11: the first by number", y.car(0, 5), 0);
         Checks.dueThrow("11: car", NSEE, () -> x.car(6, 0));
         Checks.dueThrow("11: car", NSEE, () -> x.car(-1, 9));
         Checks.dueThrow("11: what", IAE, () -> x.car(0, 6));
@@ -208,6 +214,17 @@ public final class PresenceTest {
         x.bag(0, 0);
         x.bag(1, 9);
         Checks.due("15: none", x.sure(), -1);
+        GreatWheel y = Checks.wheelOf("cars 4;bears 1;bag 1;");
+        y.bag(3, 2);
+        Checks.due("15: car 0", y.sure(), 0);
+        y.turn();
+        Checks.due("15: car 0", y.sure(), 0);
+        GreatWheel z = Checks.wheelOf("cars 12;bears 99;bag 1;");
+        z.bag(1, 1);
+        Checks.due("15: none", z.sure(), -1);
+        GreatWheel last = Checks.wheelOf("cars 4;bears 999;party 200 200 off 50;");
+        last.load(last.come(0));
+        Checks.due("15: none", last.sure(), -1);
     }
 
     private static void top() {

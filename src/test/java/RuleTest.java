@@ -84,6 +84,10 @@ public final class RuleTest {
         dueEdge(x, "done", 3);
         dueEdge(x, "full", 4);
         dueEdge(x, "late", 14);
+        GreatWheel y = Checks.wheelOf("cars 4;bears 999;seats 6;party 199 199 199;");
+        y.load(y.come(0));
+        y.turn();
+        dueEdge(y, "leans", 597);
     }
 
     private static void soWords() {

@@ -68,7 +68,19 @@ public final class SoughtTest {
         x.turn();
         x.turn();
         dueEmptied(x, 2, 0);
-        // Two of fear opposite one another can never get out.
+        GreatWheel z = Checks.wheelOf("cars 4;bears 999;party 10 fear;party 10;");
+        z.turn();
+        z.turn();
+        z.load(z.come(1));
+        z.turn();
+        z.turn();
+        z.load(z.come(0));
+        dueEmptied(z, 2, 0, 2);
+        z.turn();
+        dueEmptied(z, 5, 0, 2);
+        z.turn();
+        dueEmptied(z, 4, 0, 2);
+        // Behind one of fear, who is no longer there, the foot is open.
         GreatWheel y = Checks.wheelOf("cars 4;bears 999;party 10 fear;party 10;");
         y.come(0);
         y.come(1);
@@ -218,6 +230,16 @@ public final class SoughtTest {
         z.come(1);
         z.come(1);
         dueFilled(z, 1, 2, 1, 0, 1, -1);
+        // 90 may not be turned on from car 0 or 1; in car 2 it needs 50, not 10 or 20, in car 0 over against it.
+        GreatWheel w = Checks.wheelOf("cars 4;seats 1;bears 50;party 90;party 10;party 50;party 20;");
+        for (int p = 0; p < 4; p++) {
+            w.come(p);
+        }
+        dueFilled(w, 3, 4, 3, 2, 1, 0, 3);
+        dueFilled(w, 7, 4, 3, 2, 1, 0, 3);
+        dueFilled(w, 2, 3, 2, 2, 0, 1, -1);
+        dueFilled(w, 1, 2, 1, 1, 0, -1, -1);
+        dueFilled(w, 0, 1, 0, 0, -1, -1, -1);
     }
 
     private static void dueBags(String name, GreatWheel x, int many, int... row) {

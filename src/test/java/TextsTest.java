@@ -164,6 +164,9 @@ public final class TextsTest {
         wheelFault("4;", 2, 0);
         wheelFault("car 4;", 2, 0);
         wheelFault("carss 4;", 2, 0);
+        wheelFault("zz 4;", 2, 0);
+        wheelFault("cars 4;bagz 4;", 2, 7);
+        wheelFault("a4;", 2, 0);
         wheelFault("load;", 2, 0);
         wheelFault("cars 4 6;", 2, 7);
         wheelFault("cars seats;", 2, 5);

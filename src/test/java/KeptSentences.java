@@ -215,7 +215,7 @@ final class KeptSentences extends Sentences {
     @Says(in = "Promise 36", words = "All is as in an IMAGE.")
     static void p36_restore() {
         GreatWheel x = wheelOf("cars 4;seats 3;bears 999;party 50 off 3;party 60 rides 2 fear;",
-                "turn if late 5;load if room 1;");
+                "turn if late 5;load if room 1;turn if waits 2;turn if waits 3;turn if full 2;turn if full 3;turn if long 1;");
         seat(x, 0, 1);
         x.bag(2, 3);
         turn(x, 2);
@@ -229,8 +229,15 @@ final class KeptSentences extends Sentences {
         rule(x, "hurry;");
         int[] second = seen(x);
         x.image(0);
-        wheel(x, "cars 12;seats 5;party 9;");
+        wheel(x, "cars 12;seats 6;bears 999;party 9;party 8 off 50 rides 5 fear;");
         x.rule(0);
+        x.rest(77);
+        for (int n = 0; n < 9; n++) {
+            come(x, 1);
+            x.bag(n, 9 - n);
+            x.load(n);
+            turn(x, n % 3);
+        }
         x.restore(2);
         dueSame("the first", seen(x), first);
         x.restore(0);

@@ -1,6 +1,7 @@
 import java.io.IOException;
 import java.lang.reflect.InvocationTargetException;
 import java.lang.reflect.Method;
+import java.nio.file.Files;
 import java.nio.file.Path;
 import java.util.Arrays;
 import java.util.Comparator;
@@ -18,7 +19,12 @@ public final class SentencesTest {
 
     public static void main(String[] args) throws IOException, IllegalAccessException {
         Path root = Path.of(args.length > 0 ? args[0] : ".");
-        Document document = Document.read(root.resolve(Path.of("..", "shared", "DOC.md")));
+        Path path = root.resolve(Path.of("..", "shared", "DOC.md"));
+        boolean there = Files.isReadable(path);
+        Document document = there ? Document.read(path) : null;
+        if (!there) {
+            System.out.println("there is no " + path + ": quotes are not looked at");
+        }
         int tests = 0;
         for (Class<?> group : TESTS) {
             Method[] methods = group.getDeclaredMethods();
@@ -31,21 +37,27 @@ public final class SentencesTest {
                 }
             }
         }
+        if (there) {
+            dueAllQuoted(document);
+        }
+        System.out.println(tests + " tests of single sentences");
+        Checks.end();
+    }
+
+    private static void dueAllQuoted(Document document) {
         for (String section : document.sections()) {
             if (section.startsWith("Terms") || section.startsWith("Promise")) {
                 String left = document.unquoted(section);
                 Checks.due(section + " has words that no test quotes: " + left, left.length(), 0);
             }
         }
-        System.out.println(tests + " tests of single sentences");
-        Checks.end();
     }
 
     private static void run(Method test, Sentences.Says says, Document document) throws IllegalAccessException {
         String name = test.getName();
         Checks.within("");
         Checks.due(name + " is named by its section", name.startsWith(prefix(says.in())), true);
-        for (String words : says.words()) {
+        for (String words : document == null ? new String[0] : says.words()) {
             Checks.due(name + " quotes " + says.in() + ": " + words, document.quote(says.in(), words), true);
         }
         int before = Checks.made();

@@ -64,6 +64,43 @@ final class TermsThreeSentences extends Sentences {
         dueEmptied(x, -1);
         x.bag(2, 1);
         dueEmptied(x, 3, 0);
+        // Too far with minus: 60 in car 0 would lean by minus 60 with car 1 at the foot.
+        GreatWheel y = wheelOf("cars 4;bears 50;bag 10;party 10;");
+        turn(y, 1);
+        seat(y, 0);
+        turn(y, 3);
+        y.bag(0, 5);
+        dueEmptied(y, 1, 1);
+        y.bag(0, 6);
+        dueEmptied(y, -1);
+        // Too far with car 0 at the foot, by bags.
+        y.bag(0, 0);
+        turn(y, 1);
+        y.empty();
+        turn(y, 2);
+        seat(y, 0);
+        turn(y, 3);
+        dueEmptied(y, 1, 3);
+        turn(y, 1);
+        seat(y, 0);
+        turn(y, 1);
+        seat(y, 0);
+        turn(y, 3);
+        dueEmptied(y, 1, 3, 0);
+        // Two of 10 in car 3 hold against 60 in car 1, not against 80.
+        y.bag(1, 6);
+        dueEmptied(y, 4, 0, 3);
+        y.bag(1, 8);
+        dueEmptied(y, -1);
+        // Too far with car 0 at the foot, by guests.
+        GreatWheel z = wheelOf("cars 4;bears 50;bag 10;party 60;");
+        z.bag(3, 6);
+        turn(z, 1);
+        seat(z, 0);
+        turn(z, 2);
+        dueEmptied(z, 2, 1);
+        z.bag(3, 0);
+        dueEmptied(z, -1);
     }
 
     @Says(in = "Terms 3", words = "the fewest TURNS till nobody sits;")
@@ -82,6 +119,17 @@ final class TermsThreeSentences extends Sentences {
         x.bag(0, 0);
         x.bag(2, 1);
         dueEmptied(x, 2, 2, 0);
+        for (int cars : new int[] {4, 6, 8, 12}) {
+            for (int car = 0; car < cars; car++) {
+                GreatWheel z = wheelOf("cars " + cars + ";bears 999;party 10;");
+                turn(z, car);
+                seat(z, 0);
+                for (int n = 0; n < cars; n++) {
+                    dueEmptied(z, n == 0 ? 0 : cars - n, car);
+                    turn(z, 1);
+                }
+            }
+        }
         GreatWheel y = wheelOf("cars 12;seats 1;bears 999;party 10;");
         for (int car = 0; car < 12; car++) {
             seat(y, 0);
@@ -102,6 +150,27 @@ final class TermsThreeSentences extends Sentences {
         turn(x, 1);
         seat(x, 1);
         dueEmptied(x, 5, 3, 2, 0);
+    }
+
+    @Says(in = "Terms 3", words = "the fewest TURNS till nobody sits;")
+    static void t3_emptyingFromWhatIsNow() {
+        // What an earlier emptying found is of no weight for a later one.
+        GreatWheel x = wheelOf("cars 4;bears 999;party 5;");
+        seat(x, 0);
+        dueEmptied(x, 0, 0);
+        turn(x, 1);
+        seat(x, 0);
+        dueEmptied(x, 3, 1, 0);
+        turn(x, 3);
+        x.empty();
+        dueEmptied(x, 1, 1);
+        turn(x, 1);
+        x.empty();
+        dueEmptied(x, 0);
+        turn(x, 1);
+        seat(x, 0);
+        turn(x, 1);
+        dueEmptied(x, 3, 2);
     }
 
     // ---- FILLING
@@ -152,6 +221,22 @@ final class TermsThreeSentences extends Sentences {
         GreatWheel y = wheelOf("cars 4;seats 2;bears 999;party 5;party 5 5;");
         come(y, 1, 0, 1, 0);
         dueFilled(y, 3, 6, 2, 0, 1, 2, 1);
+        // Who waited for the wheel before it waits no more.
+        wheel(y, "cars 4;seats 2;party 5;");
+        dueFilled(y, 7, 0, 0);
+        // The last of sixty visits is one of them too.
+        for (int v = 0; v < 60; v++) {
+            y.come(0);
+        }
+        for (int v = 0; v < 59; v++) {
+            y.load(v);
+            if (v % 2 == 1) {
+                turn(y, 4);
+                y.empty();
+            }
+        }
+        due("who waits", y.waits(0), 59);
+        dueFilled(y, 7, 1, 0, 0);
     }
 
     @Says(in = "Terms 3", words = "(LOADS that MAY be; TURNS that MAY be; nobody leaves):")
@@ -179,6 +264,34 @@ final class TermsThreeSentences extends Sentences {
         wheel(w, "cars 4;seats 1;bears 20;party 20;party 21;");
         come(w, 1, 1);
         dueFilled(w, 1, 1, 0, 0, -1);
+        // Loads: one of fear that gets in on the way shuts the car over against it.
+        GreatWheel f = wheelOf("cars 4;seats 1;bears 999;party 5 fear;party 5;");
+        come(f, 0, 1, 1, 1);
+        dueFilled(f, 1, 2, 1, 0, 1);
+        dueFilled(f, 2, 3, 2, 1, 0, 2, -1);
+        dueFilled(f, 3, 4, 3, 2, 0, 1, 3);
+        GreatWheel g = wheelOf("cars 4;seats 2;bears 999;party 5 fear;party 5 5;");
+        come(g, 0, 0, 1, 1);
+        dueFilled(g, 2, 6, 2, 1, 1, 0, 2);
+        // Turns: all that got in together weigh together.
+        GreatWheel h = wheelOf("cars 4;seats 2;bears 20;party 15;");
+        come(h, 0, 0, 0);
+        dueFilled(h, 1, 3, 1, 0, 1, 1);
+        // Turns: what is there already weighs too, for and against it.
+        GreatWheel k = wheelOf("cars 4;seats 1;bears 20;bag 21;party 5;party 30;");
+        come(k, 0, 0);
+        k.bag(2, 1);
+        dueFilled(k, 1, 2, 1, 0, 1);
+        k.bag(0, 1);
+        dueFilled(k, 1, 2, 1, 0, 1);
+        k.bag(2, 0);
+        dueFilled(k, 7, 1, 0, 0);
+        GreatWheel m = wheelOf("cars 4;seats 1;bears 20;bag 20;party 30;party 5;");
+        come(m, 0, 1);
+        m.bag(2, 1);
+        dueFilled(m, 1, 2, 1, 0, 1);
+        m.bag(2, 0);
+        dueFilled(m, 1, 2, 1, 1, 0);
         // Nobody leaves, not even who is done.
         GreatWheel v = wheelOf("cars 4;seats 1;bears 999;party 5;");
         for (int car = 0; car < 4; car++) {
@@ -205,6 +318,15 @@ final class TermsThreeSentences extends Sentences {
         dueFilled(y, 0, 3, 0, 0, -1, 0, -1);
         dueFilled(y, 1, 6, 1, 0, -1, 0, 1);
         dueFilled(y, 2, 8, 2, 0, 1, 0, 2);
+        // As heavy as one, but of two guests.
+        GreatWheel z = wheelOf("cars 4;seats 2;bears 999;party 10;party 5 5;");
+        come(z, 0, 1);
+        dueFilled(z, 0, 2, 0, -1, 0);
+        // Four at once may not be turned on from: one first, then the four.
+        GreatWheel w = wheelOf("cars 4;seats 4;bears 20;party 10 10 10 10;party 5;");
+        come(w, 0, 1);
+        dueFilled(w, 0, 4, 0, 0, -1);
+        dueFilled(w, 1, 5, 1, 1, 0);
     }
 
     @Says(in = "Terms 3", words = "of these by the fewest TURNS;")
@@ -287,6 +409,18 @@ final class TermsThreeSentences extends Sentences {
         dueRow(x, 0, 4, 0, 0, 4);
         x.bag(2, 3);
         dueRow(x, 0, 1, 0, 0, 1);
+        for (int cars : new int[] {4, 6, 8, 12}) {
+            GreatWheel y = wheelOf("cars " + cars + ";bears 1;bag 99;");
+            dueRow(y, 0, 0);
+            for (int car = 0; car < cars; car++) {
+                y.bag(car, car == 0 ? 5 : 0);
+            }
+            dueRow(y, 0, -1);
+            y.bag(cars / 2, 3);
+            int[] row = new int[cars];
+            row[cars / 2] = 2;
+            dueRow(y, 0, 2, row);
+        }
         // Not the present foot alone: it stands upright now, and leans with cars 1 and 3 at the foot.
         due("upright now", x.lean(0), 0);
         x.bag(1, 9);
@@ -630,6 +764,15 @@ final class TermsThreeSentences extends Sentences {
         seat(y, 0, 1);
         turn(y, 1);
         dueFact(y, "leans", 999);
+        // 27 at lever 87 less 35 at lever 50: one less than 600.
+        GreatWheel z = wheelOf("cars 12;bears 999;party 27;party 35;");
+        turn(z, 2);
+        seat(z, 0);
+        turn(z, 5);
+        seat(z, 1);
+        turn(z, 5);
+        due("lean", z.lean(0), 599);
+        dueFact(z, "leans", 5);
     }
 
     @Says(in = "Terms 3", words = "late: the MINUTE is N or more;")
@@ -766,6 +909,13 @@ final class TermsThreeSentences extends Sentences {
         due("with sandbags", x.day(5, 1, 0, 5), 3000);
         x.bag(1, 0);
         due("without", x.day(5, 1, 0, 5), 0);
+        for (int cars : new int[] {4, 6, 8, 12}) {
+            GreatWheel y = wheelOf("cars " + cars + ";bears 999;minutes 1;bag 1;", "turn;");
+            y.bag(cars - 1, 1);
+            int most = cars == 6 ? 87 : 100;
+            due("the last car's sandbags stay", y.day(1, cars, 0, 5), most);
+            due("as many turns as cars", y.day(1, cars, 0, 3), cars);
+        }
     }
 
     @Says(in = "Terms 3", words = "as long as the MINUTE is below that:")

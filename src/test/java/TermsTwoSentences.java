@@ -298,6 +298,14 @@ final class TermsTwoSentences extends Sentences {
         due("one where one seat is free", x.may(12), 0);
         x.load(2);
         due("2 one where no seat is free", x.may(13), 2);
+        // Visits of the wheel before it are none.
+        GreatWheel w = wheelOf("party 1;");
+        come(w, 0, 0, 0);
+        wheel(w, "party 1;");
+        for (int v = 0; v < 4; v++) {
+            due("1 no such visit", w.may(10 + v), 1);
+            due("1 no such visit", w.load(v), 1);
+        }
         // How far it leans matters to turns alone.
         GreatWheel z = wheelOf("cars 4;bears 1;party 200;");
         z.bag(1, 9);

@@ -198,6 +198,14 @@ final class TextsSentences extends Sentences {
         due("go", x.go(), 1);
         x.wheel(0);
         due("steps", x.count(11), 3);
+        // Trays and images stay too.
+        put(x, 2, 0, 7);
+        x.rest(5);
+        x.image(1);
+        wheel(x, "cars 12;");
+        due("a tray", x.judge(2, 0), 1);
+        x.restore(1);
+        due("an image", x.count(9), 5);
     }
 
     @Says(in = "Promise 3", words = "how many LINES;")
@@ -289,6 +297,22 @@ final class TextsSentences extends Sentences {
         x.restore(1);
         due("an image's wheel", x.count(1), 4);
         due("an image's rule", x.count(11), 1);
+    }
+
+    @Says(in = "Promise 4", words = "Likewise THE RULE")
+    static void p04_nothingOfTheRuleBefore() {
+        GreatWheel x = wheelOf("", "again 3 load if late 9 or top;hurry if late 9;");
+        due("so(0)", x.so(0), false);
+        rule(x, "turn;empty;");
+        due("without a test now", x.so(0), true);
+        due("without a test now", x.so(1), true);
+        due("go", x.go(), 0);
+        due("once, not again", x.count(8), 1);
+        // A text with a fault leaves nothing behind either.
+        rule(x, "turn if late 9;load if late 9 ?");
+        rule(x, "turn;turn if not late 9;");
+        due("so(0)", x.so(0), true);
+        due("so(1)", x.so(1), true);
     }
 
     @Says(in = "Promise 4", words = "how many STEPS.")

@@ -376,6 +376,10 @@ final class TermsThreeSentences extends Sentences {
         dueFilled(w, 1, 2, 1, 1, 0, -1, -1);
         dueFilled(w, 2, 3, 2, 2, 0, 1, -1);
         dueFilled(w, 3, 4, 3, 2, 1, 0, 3);
+        // The first behind a turn, with the next one, and not the third at all: that is ahead of not the first at all.
+        GreatWheel u = wheelOf("cars 4;seats 3;bears 20;party 15 15;party 2;party 2 2;party 2 2 2;");
+        come(u, 0, 1, 2, 3);
+        dueFilled(u, 1, 6, 1, 1, 1, -1, 0);
     }
 
     // ---- BAGS, BALLAST, SURE, ALIKE
@@ -976,10 +980,34 @@ final class TermsThreeSentences extends Sentences {
         GreatWheel none = wheelOf("cars 4;", "load;turn;");
         due("without parties", none.day(9, 480, 100, 2), 0);
         due("without parties", none.day(9, 480, 100, 3), 240);
+        dueByVisits();
         // Just below come: the draw modulo 100 of seed 1 for the first minute.
         int first = (int) (((1103515245L + 12345L & 0xffffffffL) >> 16) % 100);
         due("come just at it", x.day(1, 1, first, 2), 0);
         due("come just above it", x.day(1, 1, first + 1, 2), 1);
+    }
+
+    /** Parties come by how many visits there were, not by minutes or draws; party p has p and 1 guests. */
+    private static void dueByVisits() {
+        GreatWheel x = wheelOf("cars 4;seats 6;bears 999;minutes 1;party 1;party 1 1;party 1 1 1;", "load;");
+        int tried = 0;
+        for (int seed = 1; seed <= 100; seed++) {
+            int[] draws = new int[3];
+            long draw = seed;
+            for (int minute = 0; minute < 3; minute++) {
+                draw = (1103515245L * draw + 12345L) & 0xffffffffL;
+                draws[minute] = (int) ((draw >> 16) % 100);
+            }
+            if (draws[1] < draws[0]) {
+                due("party 0 in minute 1 of seed " + seed, x.day(seed, 2, draws[0], 1), 1);
+                tried |= 1;
+            }
+            if (draws[0] < draws[1] && draws[2] < draws[1]) {
+                due("party 0 in minute 0, party 1 in 2 of seed " + seed, x.day(seed, 3, draws[1], 1), 3);
+                tried |= 2;
+            }
+        }
+        due("both were tried", tried, 3);
     }
 
     @Says(in = "Terms 3", words = "then THE RULE goes on once.")
@@ -1114,7 +1142,13 @@ final class TermsThreeSentences extends Sentences {
     }
 
     @Says(in = "Terms 3", words = "The constants: `NONE = -1`: There is none.")
-    static void t3_none() {
-        due("NONE", GreatWheel.NONE, -1);
+    static void t3_none() throws ReflectiveOperationException {
+        // By its name, as the compiler would put a copy of it here.
+        due("NONE", GreatWheel.class.getField("NONE").getInt(null), -1);
+        GreatWheel x = new GreatWheel();
+        due("no visit waits", x.waits(0), -1);
+        due("no visit sits", x.car(0, 5), -1);
+        due("no step", x.go(), -1);
+        due("no place", x.fault(1), -1);
     }
 }

@@ -214,6 +214,15 @@ final class TermsTwoSentences extends Sentences {
             }
             due("worst(" + foot + ")", x.worst(foot), Math.abs(lean) + more);
         }
+        // Of three in a car one by one leaves: each takes its own guesses along.
+        GreatWheel y = wheelOf("cars 4;seats 6;bears 999;party 10 off 1;party 20 20 off 20 rides 2;party 40 off 3 rides 3;");
+        seat(y, 0, 1, 2);
+        int[] left = {9000 + 100 + 4000 + 300, 8000 + 4000 + 300, 4000 + 300, 0};
+        for (int gone = 0; gone <= 3; gone++) {
+            due("worst behind " + gone, y.worst(1), left[gone]);
+            turn(y, 4);
+            due("one leaves", y.empty(), gone < 3 ? 1 : -1);
+        }
     }
 
     @Says(in = "Terms 2", words = "It leans TOO FAR, if LEAN without its sign is above 100 times bears.")
@@ -265,6 +274,15 @@ final class TermsTwoSentences extends Sentences {
                 due("one without fear", x.top(), false);
                 turn(x, 1);
             }
+        }
+        // Of two of fear in a car one leaves, the other stays; then it leaves too.
+        GreatWheel y = wheelOf("cars 4;seats 6;bears 999;party 1 fear;party 1 rides 2 fear;party 1 rides 3;");
+        seat(y, 0, 1, 2);
+        for (int round = 1; round <= 3; round++) {
+            turn(y, 2);
+            due("top in round " + round, y.top(), round < 3);
+            turn(y, 2);
+            due("one leaves", y.empty(), 1);
         }
     }
 
